@@ -108,10 +108,10 @@ public final class SeaParcels {
         if (isOut(kind, PARCEL, REGISTERED) || isOut(line, 0, LINE_MOST)) {
             return finding(BEYOND);
         }
-        if (coast.isFull()) {
+        Parcel p = coast.lay(kind);
+        if (p == null) {
             return finding(FULL);
         }
-        Parcel p = coast.lay(kind);
         p.line = line;
         return coast.laid - 1;
     }
@@ -326,41 +326,11 @@ public final class SeaParcels {
     // ---- told places
 
     public int fits(int s, int parcel) {
-        int wrong = wrongSheet(s);
-        if (wrong != 0) {
-            return finding(wrong);
-        }
-        if (isNoParcel(parcel)) {
-            return finding(BEYOND);
-        }
-        int set = 0;
-        for (int line = 0; line <= LINE_MOST; line++) {
-            Parcel p = tried(parcel);
-            p.line = line;
-            if (isAsTold(p, sheets[s])) {
-                set |= 1 << line;
-            }
-        }
-        return set;
+        return allAsTold(s, parcel, OF_LINE);
     }
 
     public int kinds(int s, int parcel) {
-        int wrong = wrongSheet(s);
-        if (wrong != 0) {
-            return finding(wrong);
-        }
-        if (isNoParcel(parcel)) {
-            return finding(BEYOND);
-        }
-        int set = 0;
-        for (int kind = PARCEL; kind <= REGISTERED; kind++) {
-            Parcel p = tried(parcel);
-            p.kind = kind;
-            if (isAsTold(p, sheets[s])) {
-                set |= 1 << kind;
-            }
-        }
-        return set;
+        return allAsTold(s, parcel, OF_KIND);
     }
 
     // ---- tides by draws
@@ -626,6 +596,26 @@ public final class SeaParcels {
         return p.state == TAKEN;
     }
 
+    /** What a parcel could have now, of what there is from 0 on, to lie where a sheet tells: as a set. */
+    private int allAsTold(int s, int parcel, int what) {
+        int wrong = wrongSheet(s);
+        if (wrong != 0) {
+            return finding(wrong);
+        }
+        if (isNoParcel(parcel)) {
+            return finding(BEYOND);
+        }
+        int set = 0;
+        for (int v = 0; v <= Parcel.most(what); v++) {
+            Parcel p = tried(parcel);
+            p.put(what, v);
+            if (isAsTold(p, sheets[s])) {
+                set |= 1 << v;
+            }
+        }
+        return set;
+    }
+
     private boolean isAsTold(Parcel p, Sheet lines) {
         for (int i = 0; i < lines.length; i++) {
             trial.passDay();
@@ -857,12 +847,11 @@ public final class SeaParcels {
             System.arraycopy(other.spots, 0, spots, 0, SPOTS);
         }
 
-        boolean isFull() {
-            return laid >= PARCELS_MOST;
-        }
-
-        /** A new parcel, where the slip isn't full. */
+        /** A new parcel, or null if the slip is full. */
         Parcel lay(int kind) {
+            if (laid >= slip.length) {
+                return null;
+            }
             Parcel p = slip[laid];
             p.beNew(kind);
             laid++;
@@ -1076,10 +1065,10 @@ public final class SeaParcels {
         }
 
         private boolean tellParcel(Coast coast, int kind) {
-            if (coast.isFull()) {
+            Parcel p = coast.lay(kind);
+            if (p == null) {
                 return false;
             }
-            Parcel p = coast.lay(kind);
             step();
             if (!tellPart(p, "on", OF_LINE, LINE_MOST) || !tellPart(p, "weighs", OF_WEIGHT, WEIGHT_MOST)
                     || !tellPart(p, "waits", OF_WAITS, NUMBER_MOST)) {

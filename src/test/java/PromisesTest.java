@@ -160,6 +160,9 @@ public final class PromisesTest {
         Runs.run("terms: no tide touches nothing",
             "parcel(0, 2) = 0", "parcel(5, 2) = 1", "parcel(0, 0) = 2", "go(1) = 0b100", "of(0, 1) = 2",
             "of(0, 6) = 0", "of(1, 1) = 2", "of(1, 6) = 0");
+        Runs.run("terms: the lowest tide that touches",
+            "tide(0, 1) = 0", "parcel(0, 3) = 0", "parcel(0, 4) = 1", "parcel(0, 5) = 2", "go(1) = 0",
+            "of(0, 1) = 5", "of(1, 1) = 6", "of(2, 1) = 5", "of(1, 6) = 1", "of(2, 6) = 0");
         Runs.run("terms: MOVES of each kind, 20 at most",
             "tide(0, 6) = 0", "parcel(0, 7) = 0", "parcel(1, 7) = 1", "parcel(2, 7) = 2", "parcel(3, 7) = 3",
             "parcel(4, 7) = 4", "parcel(6, 7) = 5", "go(1) = 0", "of(0, 1) = 9", "of(1, 1) = 8", "of(2, 1) = 8",
@@ -205,10 +208,10 @@ public final class PromisesTest {
             x.go(60);
         }
         Runs.more("DAY at its most", x,
-            "now(0) = 99960", "go(40) = STATE", "go(61) = BEYOND", "swell(20) = 0", "go(20) = STATE",
-            "swell(20) = STATE", "swell(21) = BEYOND", "go(19) = 0", "now(0) = 99999", "go(1) = STATE",
-            "swell(1) = STATE", "now(0) = 99999", "tide(3, 7) = 0", "now(6) = 7", "sea(6, 1) = 7",
-            "status(4) = 5");
+            "now(0) = 99960", "go(40) = STATE", "go(61) = BEYOND", "image() = 1", "go(39) = 0", "now(0) = 99999",
+            "tide(3, 7) = 0", "tide(4, 8) = 0", "now(6) = 7", "sea(6, 1) = 7", "undo() = 99960", "swell(20) = 0",
+            "go(20) = STATE", "swell(20) = STATE", "swell(21) = BEYOND", "swell(19) = 0", "now(0) = 99999",
+            "go(1) = STATE", "swell(1) = STATE", "now(0) = 99999", "status(4) = 5");
         SeaParcels rich = new SeaParcels();
         List<String> rows = new ArrayList<>();
         for (int i = 0; i < 6; i++) {
@@ -271,9 +274,10 @@ public final class PromisesTest {
             "tide(1, 6) = 0", "tide(2, 11) = 0", "parcel(0, 20) = 0", "lineFor(0, 0) = NONE", "lineFor(0, 1) = 0",
             "lineFor(0, 2) = 6", "lineFor(0, 3) = 11", "lineFor(0, 60) = 11", "of(0, 1) = 20",
             "change(0, 0, 2) = 0", "change(0, 2, 99) = 10", "lineFor(0, 1) = NONE", "lineFor(0, 3) = 6",
+            "tide(0, 3) = 0", "lineFor(0, 1) = NONE", "tide(0, 4) = 3", "lineFor(0, 1) = 0", "tide(0, 0) = 4",
             "change(0, 5, 1) = 0", "lineFor(0, 3) = NONE", "change(0, 4, 1) = 0", "lineFor(0, 0) = 20",
             "change(0, 4, 2) = 1", "lineFor(0, 9) = NONE", "lineFor(0, -1) = BEYOND", "lineFor(0, 61) = BEYOND",
-            "lineFor(1, 1) = BEYOND", "lineFor(-1, 1) = BEYOND", "status(0) = 4", "status(3) = 4", "of(0, 1) = 20");
+            "lineFor(1, 1) = BEYOND", "lineFor(-1, 1) = BEYOND", "status(0) = 4", "status(3) = 5", "of(0, 1) = 20");
         Runs.run("promise 18: weightFor",
             "tide(1, 10) = 0", "parcel(2, 7) = 0", "weightFor(0, 0) = NONE", "weightFor(0, 1) = NONE",
             "weightFor(0, 2) = 79", "change(0, 1, 6) = 7", "weightFor(0, 2) = 99", "change(0, 1, 8) = 6",
@@ -307,6 +311,10 @@ public final class PromisesTest {
             "change(1, 5, 1) = 0", "holdBack(20) = 0b100", "set(0, 9999) = 0", "holdBack(20) = 0",
             "set(0, 9998) = 9999", "change(1, 5, 0) = 1", "holdBack(20) = 0b110", "of(1, 5) = 0", "now(2) = 9998",
             "holdBack(-1) = BEYOND", "holdBack(21) = BEYOND", "status(0) = 2", "status(-1) = 2");
+        Runs.run("promise 21: holdBack, a full slip",
+            "tide(0, 6) = 0", "parcel(3, 6) = 0", "parcel(3, 7) = 1", "parcel(0, 6) = 2", "parcel(5, 6) = 3",
+            "parcel(3, 5) = 4", "parcel(4, 6) = 5", "parcel(2, 6) = 6", "parcel(3, 0) = 7", "holdBack(1) = 0b10010001",
+            "change(5, 6, 7) = 0", "holdBack(1) = 0b10110001");
         Runs.run("promise 21: holdBack looks at what comes if LATE stays",
             "tide(0, 6) = 0", "tide(3, 12) = 0", "parcel(3, 6) = 0", "parcel(3, 12) = 1", "ahead(1, 4, 3) = 1",
             "holdBack(3) = 0b1", "holdBack(4) = 0b11");
@@ -418,6 +426,14 @@ public final class PromisesTest {
         Runs.run("promise 29: text, item by item",
             "tape \"tide 0 5;tide 0 7;storm 3;storm 0\"", "text() = 4", "listed(0) = 7", "now(6) = 7",
             "tape \"     storm 1     \"", "text() = 1", "now(6) = 8");
+        Runs.run("promise 29: text, the least of each number",
+            "tide(0, 3) = 0", "set(1, 4) = 0", "tape \"tide 0 0;storm 0;parcel on 0 weighs 1 waits 0\"", "text() = 3",
+            "listed(0) = 0", "now(6) = 0", "of(0, 2) = 1");
+        Runs.run("promise 29: text, bytes that were there before count no more",
+            "tape \"storm 9;socks held;letter\"", "wipe() = 25", "tape \"storm 9\"", "text() = 1", "count(1) = 0",
+            "tape \"tide 0 12;socks\"", "wipe() = 15", "tape \"tide 0 1\"", "text() = 1", "listed(0) = 1",
+            "tape \"socks held\"", "wipe() = 10", "tape \"socks\"", "text() = 1", "of(0, 5) = 0",
+            "tape \"socks held\"", "wipe() = 10", "tape \"sock\"", "text() = -1");
         Runs.run("promise 29: text, what was stays",
             "parcel(3, 9) = 0", "hold(4, 0) = 1", "image() = 1", "seed(5) = 1", "set(0, 3) = 0",
             "tape \"parcel\"", "text() = 1", "of(0, 0) = 3", "as(4, 3) = 0", "now(2) = 3", "count(6) = 5",
@@ -477,6 +493,19 @@ public final class PromisesTest {
         fault("parcelon 3", 0);
         fault("parcel letter", 7);
         fault("Parcel", 0);
+        fault("marcel", 0);
+        fault("parcem", 0);
+        fault("parcela", 0);
+        fault("parcelz", 0);
+        fault("parcel`", 6);
+        fault("parcel{", 6);
+        fault("parcel an 3", 7);
+        fault("storm 3/", 7);
+        fault("storm 3:", 7);
+        fault("storm :", 6);
+        fault("parcel waits 9990", 13);
+        fault("parcel waits 9999", 13);
+        fault("parcel -1", 7);
         fault("parceL", 0);
         fault("storm 3;parcel!", 14);
         fault("storm 3;\tparcel", 8);
@@ -596,6 +625,14 @@ public final class PromisesTest {
             "image() = 1", "go(3) = 0", "image() = 1", "go(4) = 0", "undo() = 3", "go(9) = 0", "undo() = 3",
             "now(0) = 3", "undo() = 3", "parcel(0, 0) = 0", "undo() = 3", "count(1) = 0", "parcel(5, 7) = 0",
             "of(0, 1) = 7", "of(0, 2) = 10");
+        Runs.run("promise 38: a PARCEL that is new behind it is as at first",
+            "image() = 1", "parcel(4, 9) = 0", "change(0, 2, 7) = 10", "change(0, 3, 2) = 0", "change(0, 4, 2) = 0",
+            "change(0, 5, 1) = 0", "change(0, 6, 3) = 0", "undo() = 0", "tape \"letter\"", "text() = 1",
+            "of(0, 0) = 1", "of(0, 1) = 0", "of(0, 2) = 10", "of(0, 3) = 0", "of(0, 4) = 0", "of(0, 5) = 0",
+            "of(0, 6) = 0", "change(0, 1, 9) = 0", "change(0, 2, 7) = 10", "change(0, 3, 2) = 0",
+            "change(0, 4, 2) = 0", "change(0, 5, 1) = 0", "change(0, 6, 3) = 0", "undo() = 0", "parcel(2, 0) = 0",
+            "of(0, 0) = 2", "of(0, 1) = 0", "of(0, 2) = 10", "of(0, 3) = 0", "of(0, 4) = 0", "of(0, 5) = 0",
+            "of(0, 6) = 0", "undo() = 0", "tape \"socks\"", "text() = 1", "of(0, 1) = 0", "of(0, 4) = 0");
         Runs.run("promise 38: sheets and tape aren't kept",
             "sheet(0, 8, 1) = 1", "write(0, 0, 5) = 1", "feed(65, 1) = 1", "image() = 1", "write(0, 0, 6) = 1",
             "sheet(1, 8, 1) = 1", "wipe() = 1", "undo() = 0", "load(0) = 1", "listed(0) = 6", "load(1) = 1",
