@@ -627,7 +627,8 @@ public final class PromisesTest {
             "of(0, 1) = 7", "of(0, 2) = 10");
         Runs.run("promise 38: a PARCEL that is new behind it is as at first",
             "image() = 1", "parcel(4, 9) = 0", "change(0, 2, 7) = 10", "change(0, 3, 2) = 0", "change(0, 4, 2) = 0",
-            "change(0, 5, 1) = 0", "change(0, 6, 3) = 0", "undo() = 0", "tape \"letter\"", "text() = 1",
+            "change(0, 5, 1) = 0", "change(0, 6, 3) = 0", "ahead(0, 1, 0) = 9", "undo() = 0", "tape \"letter\"",
+            "text() = 1",
             "of(0, 0) = 1", "of(0, 1) = 0", "of(0, 2) = 10", "of(0, 3) = 0", "of(0, 4) = 0", "of(0, 5) = 0",
             "of(0, 6) = 0", "change(0, 1, 9) = 0", "change(0, 2, 7) = 10", "change(0, 3, 2) = 0",
             "change(0, 4, 2) = 0", "change(0, 5, 1) = 0", "change(0, 6, 3) = 0", "undo() = 0", "parcel(2, 0) = 0",
