@@ -173,6 +173,8 @@ public final class PromiseEdgesTest extends Edges {
             "of(3, 1) = 20", "status(0) = 4", "status(3) = 1"));
         edge(line, "tide(0, 20) = 0", "parcel(0, 5) = 0", "lineFor(0, 1) = 20", "tide(0, 0) = 20", "lineFor(0, 1) = 0",
             "lineFor(0, 0) = NONE", "change(0, 4, 1) = 0", "lineFor(0, 0) = 20");
+        edge("NONE.", "parcel(2, 5) = 0", "change(0, 2, 20) = 10", "lineFor(0, 60) = NONE", "change(0, 2, 19) = 20",
+            "lineFor(0, 60) = 0", "status(3) = 1");
         edge("NONE.", "tide(0, 20) = 0", "parcel(0, 5) = 0", "lineFor(0, 0) = NONE", "change(0, 5, 1) = 0",
             "lineFor(0, 60) = NONE", "change(0, 4, 2) = 0", "lineFor(0, 60) = NONE", "status(3) = 3");
         promise(18);

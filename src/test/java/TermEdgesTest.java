@@ -124,7 +124,7 @@ public final class TermEdgesTest extends Edges {
             "change(0, 5, 2) = BEYOND", "change(0, 5, -1) = BEYOND", "change(0, 5, 0) = 1");
         edge("TURNED (how often it was turned over; 0 to 9999; 0 at first)", "image() = 1", "parcel(4, 9) = 0",
             "change(0, 2, 7) = 10", "change(0, 3, 2) = 0", "change(0, 4, 2) = 0", "change(0, 5, 1) = 0",
-            "change(0, 6, 3) = 0", "undo() = 0", "tape \"letter\"", "text() = 1", "of(0, 0) = 1", "of(0, 1) = 0",
+            "change(0, 6, 3) = 0", "ahead(0, 1, 0) = 9", "undo() = 0", "tape \"letter\"", "text() = 1", "of(0, 0) = 1", "of(0, 1) = 0",
             "of(0, 2) = 10", "of(0, 3) = 0", "of(0, 4) = 0", "of(0, 5) = 0", "of(0, 6) = 0");
         edge("TURNED (how often it was turned over; 0 to 9999; 0 at first)", "parcel(0, 0) = 0",
             "change(0, 6, 9999) = 0", "change(0, 6, 10000) = BEYOND", "change(0, 6, -1) = BEYOND",
